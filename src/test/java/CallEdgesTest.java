@@ -37,6 +37,7 @@ public final class CallEdgesTest {
         promise8Days();
         promise8NotAbove20000();
         promise9Customers();
+        promise9LargestAccount();
         promise10Tools();
         promise10Whats();
         promise10NotOut();
@@ -411,6 +412,22 @@ public final class CallEdgesTest {
             A.due(s, shed, shed.account(customer), 0);
             A.refused(s, Sheds::busy, 0, x -> x.account(customer));
         }
+    }
+
+    /** Nearly as far below 0 as 512 calls can bring one: the dearest tools, all with one customer, to the last day. */
+    private static void promise9LargestAccount() {
+        String s = "9: An ACCOUNT";
+        CountedShed shed = new CountedShed();
+        for (int tool = 0; tool < Sheds.FULL_TOOLS; tool++) {
+            shed.tool(4, 1000, 100000);
+            shed.hire(tool, 5);
+        }
+        A.due(s, shed, shed.account(5), -24L * 50500);
+        Sheds.pass(shed, 20000);
+        for (int tool = 0; tool < Sheds.FULL_TOOLS; tool++) {
+            A.due(s, shed, shed.back(tool), 45120035);
+        }
+        A.due(s, shed, shed.account(5), -24L * 45120035);
     }
 
     private static void promise10Tools() {
